@@ -557,6 +557,7 @@ public final class PromiseTest {
         promise(25);
         due("lasts", x.lasts(0), 2);
         due("of a sleeper", x.lasts(1), 3);
+        due("of two mornings", made("term 2; person 0 1").lasts(0), 0);
         unchanged("none", -1, () -> made("term 1; person 0 1"), y -> y.lasts(0));
         refused("nobody", -2, PromiseTest::rich, y -> y.lasts(-1));
         promise(26);
@@ -759,15 +760,13 @@ public final class PromiseTest {
         due("will, by two", made("term 2; person 0 0; person 0 1").will(), 1);
         due("none allowed", made("term 1; never 0; said 4").will(), 0);
         unchanged("none", -1, PromiseTest::rich, y -> y.will());
-        due("the last said", made("term 9; weight 0 0; weight 1 0; weight 2 0; weight 3 0; weight 4 0; weight 5 0;"
-            + "weight 6 0; weight 7 0; said 3; person 0 8; person 2 0").will(), -1);
+        due("will, by three", made("term 3; said 9; person 0 0; person 0 1; person 0 9").will(), 2);
         promise(36);
         UnexpectedBell x = made("term 3; person 0 0; person 0 1; person 0 1");
         due("alone on it", x.spoils(0), 1);
         due("not alone", x.spoils(1), 0);
         x = made("said 9; person 2 1; person 0 2; person 4 0; person 0 3; never 0");
-        due("by more, or below 0", x.spoils(0), 2);
-        due("a wise one gets less deep", x.spoils(3), 0);
+        due("a bettor on all of them: the two that nobody else expects", x.spoils(0), 2);
         x = made("term 2; said 5; person 0 0; person 3 4; person 4 0");
         due("below 0: the wise one then expects it", x.spoils(1), -1);
         due("nothing changed", x.status(1), 3);
@@ -776,7 +775,8 @@ public final class PromiseTest {
         promise(37);
         due("spoiler", made("term 3; person 0 1; person 0 1; person 0 0").spoiler(), 2);
         due("the first", made("term 3; person 0 1; person 0 0").spoiler(), 0);
-        due("all below 0 or 0", x.spoiler(), 0);
+        due("below 0 is less than 0", made("term 2; said 5; person 3 4; person 4 0; person 0 0").spoiler(), 2);
+        due("the most of unlike ones", made("said 3; person 0 0; person 2 3; person 0 3").spoiler(), 1);
         refused("no people", -5, PromiseTest::fresh, y -> y.spoiler());
         promise(38);
         x = rich();
@@ -802,6 +802,7 @@ public final class PromiseTest {
         due("all sleepers", x.crowd(1), 0b001011);
         due("all bettors", x.crowd(2), 0);
         due("kinds as they were", x.personOf(5, 0), 5);
+        due("as things stand by now", x.unsay(0) + x.crowd(0), 2 + 0b001111);
         due("no people", fresh().crowd(3), 31);
         refused("kind 6", -2, PromiseTest::rich, y -> y.crowd(6));
         refused("kind -1", -2, PromiseTest::rich, y -> y.crowd(-1));
@@ -829,17 +830,19 @@ public final class PromiseTest {
         due("all of them", fresh().hints(0), 31);
         due("how many", fresh().hints(1), 5);
         x = made("said 9; person 0 9");
-        due("more than they can think", x.hints(0), 31);
+        due("deeper than there are mornings", x.hints(0), 31);
         x = made("term 3; person 0 0");
         due("the last is expected", x.hints(1), 2);
         due("all are needed", x.hints(0), 7);
         x = made("term 3; weight 2 0; person 2 0");
         due("the fewest mornings", x.hints(0), 4);
         due("how many", x.hints(1), 1);
-        due("none is best", made("term 2; person 0 0; person 0 1; person 0 0").hints(0), 0);
-        due("the least as bits", made("term 3; person 2 9; weight 0 1").hints(0), 7);
-        due("the least of those with two", made("term 3; said 0; person 0 1; person 5 5").hints(0), 7);
+        due("nobody can be surprised: no morning", made("term 2; person 0 0; person 0 1").hints(0), 0);
+        x = made("term 3; weight 1 2; weight 2 2; person 2 5");
+        due("0 and 1 do as well as 0 and 2: the least as bits", x.hints(0), 3);
+        due("how many", x.hints(1), 1);
         due("allowed as they were", x.status(3), 7);
+        due("of those allowed alone", x.hint(6) + x.hints(0), 2);
         refused("what 2", -2, PromiseTest::rich, y -> y.hints(2));
         refused("what -1", -2, PromiseTest::rich, y -> y.hints(-1));
         due("none allowed", made("term 1; never 0").hints(0), 0);
