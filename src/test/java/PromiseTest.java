@@ -1,22 +1,5 @@
 /** Each promise by its number: ordinary inputs, the edges that the document names, and wrong inputs. */
-public final class PromiseTest {
-    private static final int PROMISES = 62;
-    private static final int FAR = -10000000;
-    private static final int MIN = Integer.MIN_VALUE;
-    private static final int MAX = Integer.MAX_VALUE;
-
-    private interface Call {
-        long on(UnexpectedBell x);
-    }
-
-    private interface Making {
-        UnexpectedBell make();
-    }
-
-    private static final int[] tests = new int[PROMISES + 1];
-    private static int promise = 0;
-    private static int wrong = 0;
-
+public final class PromiseTest extends Trial {
     public static void main(String[] args) {
         aNewObject();
         rows();
@@ -35,106 +18,12 @@ public final class PromiseTest {
         images();
         states();
         for (int i = 1; i <= PROMISES; i++) {
-            if (tests[i] == 0) {
-                wrong++;
-                System.out.println("promise " + i + " has no test");
+            if (checks[i] == 0) {
+                promise(i);
+                fail("no test");
             }
         }
-        System.out.println(wrong == 0 ? "every promise holds" : wrong + " answers are not as due");
-        if (wrong != 0) {
-            System.exit(1);
-        }
-    }
-
-    private static void promise(int number) {
-        promise = number;
-    }
-
-    private static void due(String what, long got, long want) {
-        tests[promise]++;
-        if (got != want) {
-            wrong++;
-            System.out.println("promise " + promise + ": " + what + " answered " + got + ", due is " + want);
-        }
-    }
-
-    private static void dueText(String what, String got, String want) {
-        tests[promise]++;
-        if (!got.equals(want)) {
-            wrong++;
-            System.out.println("promise " + promise + ": " + what + "\n  left " + got + "\n  due  " + want);
-        }
-    }
-
-    /** The call answers the number, counts it once and changes nothing else. */
-    private static void refused(String what, long number, Making making, Call call) {
-        UnexpectedBell x = making.make();
-        due(what, call.on(x), number);
-        int place = 12 + (int) (-2 - number) % 10000000;
-        UnexpectedBell untouched = making.make();
-        for (int i = 12; i <= 16; i++) {
-            due(what + ", refusals " + i, x.status(i), untouched.status(i) + (i == place ? 1 : 0));
-        }
-        dueText(what + ", all else", all(x), all(untouched));
-    }
-
-    /** The call answers the number (NONE), and nothing is refused or changed. */
-    private static void unchanged(String what, long number, Making making, Call call) {
-        UnexpectedBell x = making.make();
-        due(what, call.on(x), number);
-        UnexpectedBell untouched = making.make();
-        for (int i = 12; i <= 16; i++) {
-            due(what + ", refusals " + i, x.status(i), untouched.status(i));
-        }
-        dueText(what + ", all", all(x), all(untouched));
-    }
-
-    private static String all(UnexpectedBell x) {
-        StringBuilder all = new StringBuilder();
-        for (int what = 0; what < 12; what++) {
-            all.append(x.status(what)).append(' ');
-        }
-        for (int m = 0; m < x.status(0); m++) {
-            all.append(x.morningOf(m, 0)).append(':').append(x.morningOf(m, 1)).append(' ');
-        }
-        for (int one = 0; one < x.status(1); one++) {
-            all.append(x.personOf(one, 0)).append(':').append(x.personOf(one, 1)).append(' ');
-        }
-        for (int s = 0; s < 8; s++) {
-            all.append(x.holds(s)).append('[');
-            for (int i = 0; i < 7; i++) {
-                all.append(x.element(s, i)).append(' ');
-            }
-            all.append(']');
-        }
-        all.append(x.back()).append(' ').append(x.status(1)).append(' ').append(x.status(9));
-        return all.toString();
-    }
-
-    private static UnexpectedBell fresh() {
-        return new UnexpectedBell();
-    }
-
-    private static int read(UnexpectedBell x, String text) {
-        for (int i = 0; i < text.length(); i++) {
-            x.feed(text.charAt(i));
-        }
-        return x.school();
-    }
-
-    private static UnexpectedBell made(String text) {
-        UnexpectedBell x = fresh();
-        if (read(x, text) < 0) {
-            throw new IllegalStateException(text);
-        }
-        return x;
-    }
-
-    private static void tell(UnexpectedBell x, int s, int sort, long... values) {
-        x.row(s, sort, values.length);
-        for (int i = 0; i < values.length; i++) {
-            x.set(s, i, values[i]);
-        }
+        close("every promise holds");
     }
 
     /** Something of everything: six mornings (one not allowed), three people, shelves 0 to 3, a tape. */
@@ -421,13 +310,7 @@ public final class PromiseTest {
     }
 
     private static void fault(String text, int place) {
-        UnexpectedBell x = rich();
-        x.wipe();
-        due("school of '" + text + "'", read(x, text), -20 - place);
-        UnexpectedBell untouched = rich();
-        untouched.wipe();
-        due("refused", x.status(12), untouched.status(12) + 1);
-        dueText("all else of '" + text + "'", all(x), all(untouched));
+        judge("school of '" + text + "'", -20 - place, 12, () -> after(rich(), "wipe()"), x -> read(x, text));
     }
 
     private static void faults() {
